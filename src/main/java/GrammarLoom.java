@@ -458,13 +458,29 @@ public final class GrammarLoom {
             int size = grammar.sizeOf(rule);
             endings[endingsAt(rule, size) + length] = length == 0 ? 1 : 0;
             for (int i = size - 1; i >= 0; i--) {
-                int longest = isNonterminal(grammar.symbolAt(rule, i)) ? length : Math.min(1, length);
+                int symbol = grammar.symbolAt(rule, i);
+                int behind = endingsAt(rule, i + 1) + length;
                 long sum = 0;
-                for (int part = 0; part <= longest; part++) {
-                    sum = plus(sum, endingsWith(rule, i, part, length));
+                if (isNonterminal(symbol)) {
+                    sum = pairs(symbol * WIDTH, behind, length);
+                } else if (length > 0) {
+                    sum = endings[behind - 1];
                 }
                 endings[endingsAt(rule, i) + length] = sum;
             }
+        }
+
+        /** The trees from a place on, those of each length with the endings that take the rest. */
+        private long pairs(int treesPlace, int endingsPlace, int length) {
+            long sum = 0;
+            for (int part = 0; part <= length; part++) {
+                long firsts = trees[treesPlace + part];
+                // Most counts are 0, and this is the innermost loop of all.
+                if (firsts != 0) {
+                    sum = plus(sum, times(firsts, endings[endingsPlace - part]));
+                }
+            }
+            return sum;
         }
 
         private static int endingsAt(int rule, int i) {
@@ -476,7 +492,7 @@ public final class GrammarLoom {
         }
 
         private static long times(long a, long b) {
-            if (a == 0 || b == 0) {
+            if (b == 0) {
                 return 0;
             }
             return a > MOST_TREES / b ? MOST_TREES + 1 : a * b;

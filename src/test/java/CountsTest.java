@@ -10,9 +10,11 @@ public final class CountsTest {
         promise10EmptyOnes();
         promise10LaterNumbersFirst();
         promise10TooMany();
+        promise10TooManyOfEachRule();
         promise10TooManyTimesNone();
         promise10None();
         promise11TreesWith();
+        promise11WhenRulesChange();
         promise11TooMany();
         promise11None();
         Check.end();
@@ -80,19 +82,8 @@ public final class CountsTest {
         }
     }
 
-    /** Ten empty rules of 2, so that 1 has 10^6 trees of length 0, and 0 has 10^18. */
-    private static GrammarLoom most() {
-        GrammarLoom x = new GrammarLoom();
-        Check.rule(x, 0, 1, 1, 1);
-        Check.rule(x, 1, 2, 2, 2, 2, 2, 2);
-        for (int i = 0; i < 10; i++) {
-            Check.rule(x, 2);
-        }
-        return x;
-    }
-
     private static void promise10TooMany() {
-        GrammarLoom x = most();
+        GrammarLoom x = Grammars.most();
         Check.due("10^18", MOST, x.trees(0, 0));
         int empty = Check.rule(x, 0);
         Check.due("10^18 + 1", Check.TOO_MANY, x.trees(0, 0));
@@ -110,8 +101,17 @@ public final class CountsTest {
         Check.due("11^6", 1771561, x.trees(1, 0));
     }
 
+    /** The sum of the rules' trees is more than a long holds. */
+    private static void promise10TooManyOfEachRule() {
+        GrammarLoom x = Grammars.most();
+        for (int i = 0; i < 12; i++) {
+            Check.rule(x, 3, 0, 8);
+        }
+        Check.due("12 * 10^18", Check.TOO_MANY, x.trees(3, 1));
+    }
+
     private static void promise10TooManyTimesNone() {
-        GrammarLoom x = most();
+        GrammarLoom x = Grammars.most();
         Check.rule(x, 3, 0, 0, 4);
         Check.rule(x, 3, 4, 0, 0);
         Check.due("10^36 and no tree", 0, x.trees(3, 0));
@@ -165,8 +165,23 @@ public final class CountsTest {
         Check.due("length 0", 0, x.treesWith(5, 0));
     }
 
+    private static void promise11WhenRulesChange() {
+        GrammarLoom x = new GrammarLoom();
+        Check.rule(x, 0, 0, 0);
+        Check.rule(x, 0, 8);
+        Check.rule(x, 0, 9);
+        Check.due("of two: treesWith(2, 2)", 3, x.treesWith(2, 2));
+        Check.rule(x, 0, 10);
+        Check.due("of three: treesWith(2, 2)", 5, x.treesWith(2, 2));
+        x.drop(1);
+        Check.due("of the two behind: treesWith(2, 2)", 3, x.treesWith(2, 2));
+        x.drop(1);
+        Check.due("of one: treesWith(1, 2)", 1, x.treesWith(1, 2));
+        Check.due("no rule 2", Check.NONE, x.treesWith(2, 2));
+    }
+
     private static void promise11TooMany() {
-        GrammarLoom x = most();
+        GrammarLoom x = Grammars.most();
         Check.due("10^18 with it", MOST, x.treesWith(0, 0));
         Check.due("all but 9^18", MOST - 150094635296999121L, x.treesWith(5, 0));
         int empty = Check.rule(x, 0);

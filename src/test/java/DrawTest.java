@@ -114,7 +114,7 @@ public final class DrawTest {
     }
 
     private static void promise12NothingHappens() {
-        GrammarLoom x = hundreds(5);
+        GrammarLoom x = Grammars.hundreds(5);
         Check.rule(x, 6, 8, 6);
         Check.rule(x, 6, 9);
         x.draw(6, 2, 0);
@@ -139,12 +139,7 @@ public final class DrawTest {
     }
 
     private static void promise12LargeNumbers() {
-        GrammarLoom x = new GrammarLoom();
-        Check.rule(x, 0, 1, 1, 1);
-        Check.rule(x, 1, 2, 2, 2, 2, 2, 2);
-        for (int i = 0; i < 10; i++) {
-            Check.rule(x, 2);
-        }
+        GrammarLoom x = Grammars.most();
         long[] numbers = {0, 1, 10, 123456789012345678L, 987654321098765432L, MOST - 1};
         for (long number : numbers) {
             dueDigits(x, number);
@@ -169,32 +164,17 @@ public final class DrawTest {
         }
     }
 
-    /** A tree of 195 + ends rules, without a yield. */
-    private static GrammarLoom hundreds(int ends) {
-        GrammarLoom x = new GrammarLoom();
-        Check.rule(x, 0, 1, 1, 1, 1, 4, 5);
-        Check.rule(x, 1, 2, 2, 2, 2, 2, 2);
-        Check.rule(x, 2, 3, 3, 3, 3, 3, 3);
-        Check.rule(x, 3);
-        Check.rule(x, 4, 2, 2, 2);
-        for (int i = 0; i < ends; i++) {
-            x.symbol(3);
-        }
-        x.rule(5);
-        return x;
-    }
-
     private static void promise12TwoHundredRules() {
-        GrammarLoom x = hundreds(4);
+        GrammarLoom x = Grammars.hundreds(4);
         Check.due("200 rules", 200, x.draw(0, 0, 0));
         Check.due("row(0)", 0, x.row(0));
         Check.due("row(195)", 5, x.row(195));
         Check.due("row(199)", 3, x.row(199));
         Check.due("row(200)", Check.NONE, x.row(200));
         Check.due("no leaf", Check.NONE, x.leaf(0));
-        Check.due("201 rules", Check.TOO_MANY, hundreds(5).draw(0, 0, 0));
-        Check.due("199 rules", 199, hundreds(3).draw(0, 0, 0));
-        GrammarLoom y = hundreds(4);
+        Check.due("201 rules", Check.TOO_MANY, Grammars.hundreds(5).draw(0, 0, 0));
+        Check.due("199 rules", 199, Grammars.hundreds(3).draw(0, 0, 0));
+        GrammarLoom y = Grammars.hundreds(4);
         y.drop(3);
         Check.rule(y, 3, 6);
         Check.rule(y, 6);
@@ -202,7 +182,7 @@ public final class DrawTest {
         Check.due("none such before too many", Check.NONE, y.draw(0, 0, 1));
     }
 
-    /** A row of more than 300,000 rules, and one of six times as many beside leaves. */
+    /** Each nonterminal six times the next one: a row of more than 300,000 rules. */
     private static void promise12EndlessRow() {
         GrammarLoom x = new GrammarLoom();
         for (int left = 0; left < 7; left++) {
@@ -218,14 +198,8 @@ public final class DrawTest {
         Check.due("no tree was drawn instead", Check.NONE, x.row(43));
     }
 
-    /** Eight rules down for each of sixteen leaves: no tree is deeper. */
     private static void promise12DeepTree() {
-        GrammarLoom x = new GrammarLoom();
-        for (int left = 0; left < 7; left++) {
-            Check.rule(x, left, left + 1);
-        }
-        Check.rule(x, 7, 8, 0);
-        Check.rule(x, 7);
+        GrammarLoom x = Grammars.deep();
         Check.due("136 rules", 136, x.draw(0, 16, 0));
         for (int i = 0; i < 136; i++) {
             int due = i == 135 ? 8 : i % 8;

@@ -153,12 +153,7 @@ public final class NumberTest {
     }
 
     private static void promise16LargeNumbers() {
-        GrammarLoom x = new GrammarLoom();
-        Check.rule(x, 0, 1, 1, 1);
-        Check.rule(x, 1, 2, 2, 2, 2, 2, 2);
-        for (int i = 0; i < 10; i++) {
-            Check.rule(x, 2);
-        }
+        GrammarLoom x = Grammars.most();
         long[] numbers = {0, 1, 123456789012345678L, 987654321098765432L, MOST - 1};
         for (long number : numbers) {
             Check.due("number " + number, number, Check.number(x, 0, digits(number)));
@@ -185,13 +180,7 @@ public final class NumberTest {
     }
 
     private static void promise16TwoHundredRules() {
-        GrammarLoom x = new GrammarLoom();
-        Check.rule(x, 0, 1, 1, 1, 1, 4, 5);
-        Check.rule(x, 1, 2, 2, 2, 2, 2, 2);
-        Check.rule(x, 2, 3, 3, 3, 3, 3, 3);
-        Check.rule(x, 3);
-        Check.rule(x, 4, 2, 2, 2);
-        Check.rule(x, 5, 3, 3, 3, 3);
+        GrammarLoom x = Grammars.hundreds(4);
         Check.due("200 rules", 200, x.draw(0, 0, 0));
         for (int i = 0; i < 200; i++) {
             x.list(x.row(i));
@@ -206,12 +195,7 @@ public final class NumberTest {
     }
 
     private static void promise16DeepTree() {
-        GrammarLoom x = new GrammarLoom();
-        for (int left = 0; left < 7; left++) {
-            Check.rule(x, left, left + 1);
-        }
-        Check.rule(x, 7, 8, 0);
-        Check.rule(x, 7);
+        GrammarLoom x = Grammars.deep();
         for (int i = 0; i < 135; i++) {
             x.list(i % 8);
         }
