@@ -5,17 +5,15 @@ import java.util.List;
 /** Many runs of calls, right and wrong ones, beside the plain model; the same runs every time. */
 public final class ModelTest {
     private static final int RUNS = 1200;
-    private static final int MOST_CALLS = 512;
     private static final int FEW_TREES = 400;
 
     private final int run;
-    private final GrammarLoom loom = new GrammarLoom();
+    private final Loom loom = new Loom();
     private final PlainModel model = new PlainModel();
     private final List<Integer> text = new ArrayList<>();
     private final List<Integer> list = new ArrayList<>();
     private List<Integer> row = new ArrayList<>();
     private List<Integer> yield = new ArrayList<>();
-    private int calls;
     private long state;
     private final int nonterminals;
     private final int largest;
@@ -44,12 +42,11 @@ public final class ModelTest {
     }
 
     private void due(String call, long want, long got) {
-        calls++;
-        Check.due("run " + run + ", call " + calls + ": " + call, want, got);
+        Check.due("run " + run + ", call " + loom.calls() + ": " + call, want, got);
     }
 
     private int callsLeft() {
-        return MOST_CALLS - calls;
+        return Loom.MOST_CALLS - loom.calls();
     }
 
     private void play() {
@@ -227,65 +224,44 @@ public final class ModelTest {
         int got = loom.draw(nonterminal, length, number);
         if (number < 0 || number >= trees) {
             due(call, Check.NONE, got);
-        } else if (trees <= FEW_TREES) {
-            dueDrawn(call, got, model.inOrder(nonterminal, length).get((int) number));
         } else {
-            PlainModel.Tree tree = dueSomeTree(call, got, nonterminal, length);
-            dueNumbered(tree, nonterminal, number);
-            dueNext(tree, nonterminal, length, number);
+            dueDrawn(call, got, treeAt(nonterminal, length, number));
+            tellDrawn(nonterminal, number, got);
         }
         lookAtTree();
     }
 
-    private void dueDrawn(String call, int got, PlainModel.Tree tree) {
-        List<Integer> rules = tree.row();
-        if (rules.size() > 200) {
-            due(call, Check.TOO_MANY, got);
-            return;
-        }
-        due(call, rules.size(), got);
-        row = rules;
-        yield = model.yieldOf(tree);
-    }
-
-    /** Too many trees to look at all: it must be one of them. */
-    private PlainModel.Tree dueSomeTree(String call, int got, int nonterminal, int length) {
-        if (got == Check.TOO_MANY) {
-            return null;
-        }
-        List<Integer> rules = new ArrayList<>();
-        for (int i = 0; i < got; i++) {
-            rules.add(loom.row(i));
-            calls++;
-        }
-        PlainModel.Tree tree = model.read(nonterminal, rules);
-        due(call + " draws a tree", 1, tree == null ? 0 : 1);
-        if (tree != null) {
-            due(call + " draws a tree of the length", length, tree.length);
-            row = rules;
-            yield = model.yieldOf(tree);
+    /** Among few trees, the one that has the place when all are put in THE ORDER. */
+    private PlainModel.Tree treeAt(int nonterminal, int length, long number) {
+        PlainModel.Tree tree = model.treeAt(nonterminal, length, number);
+        if (dueTrees(nonterminal, length) <= FEW_TREES) {
+            PlainModel.Tree listed = model.inOrder(nonterminal, length).get((int) number);
+            boolean agree = tree == null ? listed.row().size() > 200 : model.compare(tree, listed) == 0;
+            due("the model has one order", 1, agree ? 1 : 0);
         }
         return tree;
     }
 
-    private void dueNumbered(PlainModel.Tree tree, int nonterminal, long number) {
-        if (tree == null || tree.row().size() + 20 > callsLeft()) {
+    private void dueDrawn(String call, int got, PlainModel.Tree tree) {
+        if (tree == null) {
+            due(call, Check.TOO_MANY, got);
             return;
         }
-        tellRow(tree.row());
-        due("number(" + nonterminal + ") of the tree drawn", number, loom.number(nonterminal));
-        list.clear();
+        row = tree.row();
+        yield = model.yieldOf(tree);
+        due(call, row.size(), got);
+        for (int i = 0; i < row.size() && callsLeft() > 100; i++) {
+            due("row(" + i + ") behind " + call, row.get(i), loom.row(i));
+        }
     }
 
-    private void dueNext(PlainModel.Tree tree, int nonterminal, int length, long number) {
-        if (tree == null || 2 * tree.row().size() + 20 > callsLeft() || number + 1 >= dueTrees(nonterminal, length)) {
+    private void tellDrawn(int nonterminal, long number, int rules) {
+        if (rules < 0 || row.size() + 60 > callsLeft()) {
             return;
         }
-        int got = loom.draw(nonterminal, length, number + 1);
-        PlainModel.Tree next = dueSomeTree("the next draw", got, nonterminal, length);
-        if (next != null) {
-            due("the next tree comes later", 1, model.compare(tree, next) < 0 ? 1 : 0);
-        }
+        tellRow(row);
+        due("number(" + nonterminal + ") of the tree drawn", number, loom.number(nonterminal));
+        list.clear();
     }
 
     private void tellRow(List<Integer> rules) {
@@ -316,7 +292,7 @@ public final class ModelTest {
         long trees = dueTrees(nonterminal, length);
         if (trees > 0 && trees <= FEW_TREES) {
             List<Integer> rules = model.inOrder(nonterminal, length).get(below((int) trees)).row();
-            tellRow(rules.subList(0, Math.min(rules.size(), callsLeft() - 20)));
+            tellRow(rules.subList(0, Math.min(rules.size(), callsLeft() - 60)));
         } else {
             tell(about(model.rules.size()));
         }
@@ -325,26 +301,17 @@ public final class ModelTest {
         }
         nonterminal = below(10) == 0 ? someNonterminal() : nonterminal;
         due("count(2)", list.size(), loom.count(2));
-        long got = loom.number(nonterminal);
-        due("number(" + nonterminal + ")", dueNumber(nonterminal, got), got);
+        due("number(" + nonterminal + ")", dueNumber(nonterminal), loom.number(nonterminal));
         list.clear();
         due("count(2)", 0, loom.count(2));
     }
 
-    /** Of one among many it is only known that it has a number. */
-    private long dueNumber(int nonterminal, long got) {
+    private long dueNumber(int nonterminal) {
         PlainModel.Tree tree = model.read(nonterminal, list);
         if (tree == null || dueTrees(nonterminal, tree.length) < 0) {
             return Check.NONE;
         }
-        if (dueTrees(nonterminal, tree.length) > FEW_TREES) {
-            return Math.max(0, got);
-        }
-        long before = 0;
-        for (PlainModel.Tree other : model.inOrder(nonterminal, tree.length)) {
-            before += model.compare(other, tree) < 0 ? 1 : 0;
-        }
-        return before;
+        return model.numberOf(tree);
     }
 
     private void lookAtAll() {

@@ -50,7 +50,8 @@ final class PlainModel {
 
     private final Map<String, BigInteger> known = new HashMap<>();
     private long[] lengths;
-    private int withRule;
+    private int leftOut = -1;
+    private int rulesLeft;
 
     void changed() {
         known.clear();
@@ -161,7 +162,6 @@ final class PlainModel {
     // ---- counts, only without a circle
 
     BigInteger trees(int nonterminal, int length) {
-        withRule = -1;
         return count(nonterminal, length);
     }
 
@@ -169,8 +169,9 @@ final class PlainModel {
         BigInteger all = trees(0, length);
         Map<String, BigInteger> kept = new HashMap<>(known);
         known.clear();
-        withRule = rule;
+        leftOut = rule;
         BigInteger without = count(0, length);
+        leftOut = -1;
         known.clear();
         known.putAll(kept);
         return all.subtract(without);
@@ -188,7 +189,7 @@ final class PlainModel {
         if (sum == null) {
             sum = BigInteger.ZERO;
             for (int r = 0; r < rules.size(); r++) {
-                if (r != withRule && rules.get(r)[0] == symbol) {
+                if (r != leftOut && rules.get(r)[0] == symbol) {
                     sum = sum.add(countFrom(r, 1, length));
                 }
             }
@@ -202,16 +203,28 @@ final class PlainModel {
         if (i == rule.length) {
             return length == 0 ? BigInteger.ONE : BigInteger.ZERO;
         }
-        int behind = leastFrom(rule, i + 1);
-        BigInteger sum = BigInteger.ZERO;
-        int first = least(lengthsOf(rule[i]));
-        if (first == UNKNOWN || behind == UNKNOWN) {
-            return sum;
-        }
-        for (int part = first; part <= length - behind; part++) {
-            sum = sum.add(count(rule[i], part).multiply(countFrom(r, i + 1, length - part)));
+        String key = r + " " + i + " " + length;
+        BigInteger sum = known.get(key);
+        if (sum == null) {
+            sum = BigInteger.ZERO;
+            for (int part = 0; part <= longestPart(rule, i, length); part++) {
+                sum = sum.add(countWith(r, i, part, length));
+            }
+            known.put(key, sum);
         }
         return sum;
+    }
+
+    /** Below 0 if there is none; so no nonterminal is counted that waits for this very count. */
+    private int longestPart(int[] rule, int i, int length) {
+        int behind = leastFrom(rule, i + 1);
+        return behind == UNKNOWN || least(lengthsOf(rule[i])) == UNKNOWN ? -1 : length - behind;
+    }
+
+    /** The ways in which symbol i of the rule yields the part of the length. */
+    private BigInteger countWith(int r, int i, int part, int length) {
+        BigInteger firsts = count(rules.get(r)[i], part);
+        return firsts.signum() == 0 ? firsts : firsts.multiply(countFrom(r, i + 1, length - part));
     }
 
     private int leastFrom(int[] rule, int i) {
@@ -253,9 +266,8 @@ final class PlainModel {
             }
             return;
         }
-        int behind = leastFrom(rule, i + 1);
-        for (int part = 0; behind != UNKNOWN && part <= length - behind; part++) {
-            if (count(rule[i], part).signum() == 0 || countFrom(r, i + 1, length - part).signum() == 0) {
+        for (int part = 0; part <= longestPart(rule, i, length); part++) {
+            if (countWith(r, i, part, length).signum() == 0) {
                 continue;
             }
             List<Tree> choices = new ArrayList<>();
@@ -290,6 +302,81 @@ final class PlainModel {
         }
         return 0;
     }
+
+    // ---- the same by counting what comes before, where there are many
+
+    /** The tree with a number; null if it has more than 200 rules. */
+    Tree treeAt(int nonterminal, int length, long number) {
+        rulesLeft = 200;
+        return treeAt(nonterminal, length, BigInteger.valueOf(number));
+    }
+
+    private Tree treeAt(int nonterminal, int length, BigInteger number) {
+        rulesLeft--;
+        BigInteger left = number;
+        for (int r = 0; r < rules.size() && rulesLeft >= 0; r++) {
+            if (rules.get(r)[0] == nonterminal) {
+                BigInteger trees = countFrom(r, 1, length);
+                if (left.compareTo(trees) < 0) {
+                    List<Tree> parts = new ArrayList<>();
+                    return addParts(parts, r, length, left) ? new Tree(r, parts) : null;
+                }
+                left = left.subtract(trees);
+            }
+        }
+        return null;
+    }
+
+    private boolean addParts(List<Tree> parts, int r, int length, BigInteger number) {
+        int[] rule = rules.get(r);
+        BigInteger left = number;
+        int rest = length;
+        for (int i = 1; i < rule.length; i++) {
+            int part = 0;
+            while (left.compareTo(countWith(r, i, part, rest)) >= 0) {
+                left = left.subtract(countWith(r, i, part, rest));
+                part++;
+            }
+            rest -= part;
+            BigInteger[] numbers = left.divideAndRemainder(countFrom(r, i + 1, rest));
+            Tree tree = isNonterminal(rule[i]) ? treeAt(rule[i], part, numbers[0]) : null;
+            if (tree == null && isNonterminal(rule[i])) {
+                return false;
+            }
+            parts.add(tree);
+            left = numbers[1];
+        }
+        return true;
+    }
+
+    /** How many trees of its nonterminal and length come before a tree. */
+    long numberOf(Tree tree) {
+        return before(tree).longValueExact();
+    }
+
+    private BigInteger before(Tree tree) {
+        int[] rule = rules.get(tree.rule);
+        BigInteger sum = BigInteger.ZERO;
+        for (int r = 0; r < tree.rule; r++) {
+            if (rules.get(r)[0] == rule[0]) {
+                sum = sum.add(countFrom(r, 1, tree.length));
+            }
+        }
+        int rest = tree.length;
+        for (int i = 1; i < rule.length; i++) {
+            Tree part = tree.parts.get(i - 1);
+            for (int less = 0; less < Tree.lengthOf(part); less++) {
+                sum = sum.add(countWith(tree.rule, i, less, rest));
+            }
+            rest -= Tree.lengthOf(part);
+            if (part != null) {
+                sum = sum.add(before(part).multiply(countFrom(tree.rule, i + 1, rest)));
+            }
+        }
+        return sum;
+    }
+
+    // ---- rows and yields
 
     List<Integer> yieldOf(Tree tree) {
         List<Integer> yield = new ArrayList<>();

@@ -8,23 +8,22 @@ import java.util.Set;
 
 /** The room of a run: what an object holds, and that its calls make nothing more. */
 public final class RoomTest {
-    private static final int CALLS = 512;
-    private static final long MOST_OBJECTS = 600_000 / CALLS;
-    private static final long MOST_ELEMENTS = 7_300_000 / CALLS;
+    private static final long MOST_OBJECTS = 600_000 / Loom.MOST_CALLS;
+    private static final long MOST_ELEMENTS = 7_300_000 / Loom.MOST_CALLS;
 
     private final Set<Object> seen = Collections.newSetFromMap(new IdentityHashMap<>());
     private long elements;
 
     public static void main(String[] args) throws IllegalAccessException {
-        GrammarLoom x = new GrammarLoom();
+        Loom x = new Loom();
         RoomTest before = new RoomTest();
         before.walk(x);
         // Every call of a run could be a constructor.
         Check.due("objects of one object fit", true, before.seen.size() < MOST_OBJECTS);
         Check.due("elements of one object fit", true, before.elements < MOST_ELEMENTS);
-        dearCalls(new GrammarLoom(), 20);
+        dearCalls(new Loom());
         long made = made();
-        dearCalls(x, 20);
+        dearCalls(x);
         Check.due("calls make nothing", true, made() - made < 10_000);
         RoomTest after = new RoomTest();
         after.walk(x);
@@ -39,12 +38,12 @@ public final class RoomTest {
         return threads.getThreadAllocatedBytes(Thread.currentThread().getId());
     }
 
-    private static void dearCalls(GrammarLoom x, int rounds) {
-        Check.rule(x, 0, 0, 1, 0, 8);
-        Check.rule(x, 0, 1);
-        Check.rule(x, 1, 9);
-        Check.rule(x, 1);
-        for (int i = 0; i < rounds; i++) {
+    private static void dearCalls(Loom x) {
+        x.add(0, 0, 1, 0, 8);
+        x.add(0, 1);
+        x.add(1, 9);
+        x.add(1);
+        for (int i = 0; x.calls() < Loom.MOST_CALLS - 50; i++) {
             int last = x.rule(2);
             x.shortest(0);
             x.shortestWith(0);
