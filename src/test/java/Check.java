@@ -24,11 +24,28 @@ final class Check {
     }
 
     private static final List<Words> SAID = new ArrayList<>();
-    private static Words words;
+    private static volatile Words words;
     private static int asked = 0;
     private static int wrong = 0;
 
+    static {
+        Thread guard = new Thread(Check::stopLateTest);
+        guard.setDaemon(true);
+        guard.start();
+    }
+
     private Check() {
+    }
+
+    /** So that a call that never ends is a test that fails; the longest test takes some seconds. */
+    private static void stopLateTest() {
+        try {
+            Thread.sleep(300_000);
+        } catch (InterruptedException e) {
+            return;
+        }
+        System.out.println((words == null ? "the test" : words) + ": not ended after five minutes");
+        Runtime.getRuntime().halt(1);
     }
 
     /** The answers from here on are due by these words. */

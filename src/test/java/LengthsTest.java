@@ -17,6 +17,8 @@ public final class LengthsTest {
         shortestWithOfAll();
         waysToTheRule();
         noTreeWith();
+        noTreeWithFurtherDown();
+        noTreeWithWhatStandsBehind();
         shortestWithNoRule();
         circleOfOneStep();
         circleOfSeveralSteps();
@@ -230,6 +232,43 @@ public final class LengthsTest {
         Check.due("no tree of 0, a rule with both", Check.NONE, y.shortestWith(2));
         y.rule(0);
         Check.due("a tree of 0", 1, y.shortestWith(1));
+    }
+
+    /** Nonterminal 0 has trees, and terminals stand around the place where the rule would be used. */
+    private static void noTreeWithFurtherDown() {
+        Check.says(8, "NONE if there is none,");
+        Loom x = new Loom();
+        x.add(0, 8, 1, 8);
+        x.add(1, 2);
+        x.add(1, 9);
+        x.add(1, 3, 2);
+        x.add(1, 2, 3);
+        x.add(3, 8);
+        int[] due = {3, Check.NONE, 3, Check.NONE, Check.NONE, Check.NONE};
+        for (int rule = 0; rule < due.length; rule++) {
+            Check.due("shortestWith(" + rule + ")", due[rule], x.shortestWith(rule));
+        }
+        x.rule(2);
+        int[] dueWithEmpty = {2, 2, 3, 3, 3, 3, 2};
+        for (int rule = 0; rule < dueWithEmpty.length; rule++) {
+            Check.due("with an empty rule: shortestWith(" + rule + ")", dueWithEmpty[rule], x.shortestWith(rule));
+        }
+    }
+
+    /** A right side ends with its last symbol, whatever stood or stands behind it. */
+    private static void noTreeWithWhatStandsBehind() {
+        Check.says(8, "NONE if there is none,");
+        Loom x = new Loom();
+        x.add(0, 8, 8, 8, 8, 8, 8);
+        x.add(4, 3);
+        x.add(3, 8);
+        x.add(0, 4, 4, 3, 3);
+        x.add(0, 9);
+        Check.due("used by rule 3", 4, x.shortestWith(1));
+        x.drop(3);
+        Check.due("the next rule's symbol", Check.NONE, x.shortestWith(1));
+        Check.due("the next rule's symbol", Check.NONE, x.shortestWith(2));
+        Check.due("the last rule", 1, x.shortestWith(3));
     }
 
     private static void shortestWithNoRule() {

@@ -4,7 +4,7 @@ import java.util.List;
 
 /** Many runs of calls, right and wrong ones, beside the plain model; the same runs every time. */
 public final class ModelTest {
-    private static final int RUNS = 1200;
+    private static final int RUNS = 2000;
     private static final int FEW_TREES = 400;
 
     private final int run;
@@ -16,17 +16,21 @@ public final class ModelTest {
     private List<Integer> yield = new ArrayList<>();
     private long state;
     private final int nonterminals;
+    private final int smallest;
     private final int largest;
     private final int terminalsIn100;
-    private final boolean mostlyDownwards;
+    private final int upwardsIn100;
 
     private ModelTest(int run) {
         this.run = run;
         state = 7919L * run + 17;
-        nonterminals = 1 + below(8);
-        largest = 1 + below(6);
-        terminalsIn100 = 10 + below(80);
-        mostlyDownwards = below(4) != 0;
+        // A wide grammar has few terminals and trees of some hundred rules.
+        boolean wide = run % 5 == 0;
+        nonterminals = wide ? 4 + below(3) : 1 + below(8);
+        largest = wide ? 6 : 1 + below(6);
+        smallest = wide ? 2 + below(3) : 0;
+        terminalsIn100 = wide ? below(5) : 10 + below(80);
+        upwardsIn100 = wide ? 0 : new int[] {0, 20, 20, 100}[below(4)];
     }
 
     public static void main(String[] args) {
@@ -53,8 +57,8 @@ public final class ModelTest {
         if (below(4) != 0) {
             addShortRules();
         }
-        int first = 1 + below(18);
-        for (int i = 0; i < first; i++) {
+        int more = 1 + below(smallest == 0 ? 18 : 6);
+        for (int i = 0; i < more; i++) {
             addRule();
         }
         while (callsLeft() > 100) {
@@ -95,9 +99,10 @@ public final class ModelTest {
         if (below(100) < terminalsIn100) {
             return 8 + below(16);
         }
-        int symbol = below(nonterminals);
-        boolean turn = mostlyDownwards && symbol <= left && left + 1 < nonterminals && below(5) != 0;
-        return turn ? left + 1 : symbol;
+        if (below(100) < upwardsIn100) {
+            return below(nonterminals);
+        }
+        return left + 1 < nonterminals ? left + 1 + below(Math.min(2, nonterminals - left - 1)) : 8;
     }
 
     private void addSymbol(int symbol) {
@@ -109,18 +114,25 @@ public final class ModelTest {
     }
 
     private void addRule() {
-        int left = below(nonterminals);
-        int size = below(largest + 1);
+        addRule(below(nonterminals));
+    }
+
+    private void addRule(int left) {
+        int size = smallest + below(largest + 1 - smallest);
         for (int i = 0; i < size; i++) {
             addSymbol(someSymbol(left));
         }
         endRule(below(30) == 0 ? about(8) : left);
     }
 
-    /** So that most nonterminals have trees. */
+    /** So that most nonterminals have trees; in a wide grammar the last ones, so that these are long. */
     private void addShortRules() {
-        for (int left = 0; left < nonterminals; left++) {
-            if (below(3) != 0) {
+        int first = smallest == 0 ? 0 : nonterminals - 1 - below(2);
+        for (int left = 0; left < first; left++) {
+            addRule(left);
+        }
+        for (int left = first; left < nonterminals; left++) {
+            if (below(3) != 0 && smallest == 0) {
                 addSymbol(8 + left);
             }
             endRule(left);
@@ -236,7 +248,7 @@ public final class ModelTest {
         PlainModel.Tree tree = model.treeAt(nonterminal, length, number);
         if (dueTrees(nonterminal, length) <= FEW_TREES) {
             PlainModel.Tree listed = model.inOrder(nonterminal, length).get((int) number);
-            boolean agree = tree == null ? listed.row().size() > 200 : model.compare(tree, listed) == 0;
+            boolean agree = tree == null ? listed.rules > 200 : model.compare(tree, listed) == 0;
             due("the model has one order", 1, agree ? 1 : 0);
         }
         return tree;
@@ -291,7 +303,8 @@ public final class ModelTest {
         int length = below(6);
         long trees = dueTrees(nonterminal, length);
         if (trees > 0 && trees <= FEW_TREES) {
-            List<Integer> rules = model.inOrder(nonterminal, length).get(below((int) trees)).row();
+            PlainModel.Tree tree = model.inOrder(nonterminal, length).get(below((int) trees));
+            List<Integer> rules = tree.rules > 1000 ? List.of() : tree.row();
             tellRow(rules.subList(0, Math.min(rules.size(), callsLeft() - 60)));
         } else {
             tell(about(model.rules.size()));

@@ -186,6 +186,8 @@ public final class NumberTest {
         Check.due("too long", Check.NONE, x.numberOf(0, 1, 2, 2, 2));
         Check.due("a row and another row", Check.NONE, x.numberOf(0, 1, 2, 2, 1, 2, 2));
         Check.due("two trees", Check.NONE, x.numberOf(1, 0, 0));
+        Check.due("a row behind a rule that wants another", Check.NONE, x.numberOf(0, 1, 1, 2, 2));
+        Check.due("a row behind a rule that wants none", Check.NONE, x.numberOf(0, 2, 1, 2, 2));
         Check.due("a wrong kind within", Check.NONE, x.numberOf(0, 1, 1, 2, 2, 2));
         Check.due("a wrong kind at the end", Check.NONE, x.numberOf(0, 3, 0));
         Check.due("from its end to its start", Check.NONE, x.numberOf(0, 2, 2, 1));

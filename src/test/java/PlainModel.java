@@ -18,15 +18,19 @@ final class PlainModel {
         final int rule;
         final List<Tree> parts;
         final int length;
+        final int rules;
 
         Tree(int rule, List<Tree> parts) {
             this.rule = rule;
             this.parts = new ArrayList<>(parts);
-            int sum = 0;
+            int terminals = 0;
+            int below = 0;
             for (Tree part : parts) {
-                sum += lengthOf(part);
+                terminals += lengthOf(part);
+                below += part == null ? 0 : part.rules;
             }
-            this.length = sum;
+            length = terminals;
+            rules = 1 + below;
         }
 
         static int lengthOf(Tree part) {
@@ -49,12 +53,14 @@ final class PlainModel {
     final List<int[]> rules = new ArrayList<>();
 
     private final Map<String, BigInteger> known = new HashMap<>();
+    private final Map<String, List<Tree>> listed = new HashMap<>();
     private long[] lengths;
     private int leftOut = -1;
     private int rulesLeft;
 
     void changed() {
         known.clear();
+        listed.clear();
         lengths = null;
     }
 
@@ -242,17 +248,22 @@ final class PlainModel {
     // ---- trees, only without a circle and where there are few
 
     List<Tree> inOrder(int nonterminal, int length) {
-        List<Tree> trees = allTrees(nonterminal, length);
+        List<Tree> trees = new ArrayList<>(allTrees(nonterminal, length));
         trees.sort(this::compare);
         return trees;
     }
 
     private List<Tree> allTrees(int nonterminal, int length) {
-        List<Tree> trees = new ArrayList<>();
-        for (int r = rules.size() - 1; r >= 0; r--) {
-            if (rules.get(r)[0] == nonterminal) {
-                addTrees(trees, r, new ArrayList<>(), length);
+        String key = nonterminal + " " + length;
+        List<Tree> trees = listed.get(key);
+        if (trees == null) {
+            trees = new ArrayList<>();
+            for (int r = rules.size() - 1; r >= 0; r--) {
+                if (rules.get(r)[0] == nonterminal) {
+                    addTrees(trees, r, new ArrayList<>(), length);
+                }
             }
+            listed.put(key, trees);
         }
         return trees;
     }
@@ -286,6 +297,9 @@ final class PlainModel {
 
     /** THE ORDER. */
     int compare(Tree a, Tree b) {
+        if (a == b) {
+            return 0;
+        }
         if (a.rule != b.rule) {
             return Integer.compare(a.rule, b.rule);
         }

@@ -8,7 +8,9 @@ final class Wrong {
     static final int[] NONTERMINALS = with(-1, -2, -8, 8, 9, 15, 16, 23, 24, 32);
     static final int[] LENGTHS = with(-1, -2, -16, 17, 18, 32);
     static final int[] WHATS = with(-1, -2, 3, 4, 32);
-    static final long[] NUMBERS = {-1, -2, Integer.MIN_VALUE, 1L << 32, 1000000000000000000L, Long.MIN_VALUE, Long.MAX_VALUE};
+    static final long[] NUMBERS = {
+        -1, -2, Integer.MIN_VALUE, 1L << 32, Grammars.MOST, Long.MIN_VALUE, Long.MIN_VALUE + 1, Long.MAX_VALUE,
+    };
 
     private Wrong() {
     }
