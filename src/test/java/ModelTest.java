@@ -65,6 +65,12 @@ public final class ModelTest {
             step();
         }
         lookAtAll();
+        while (callsLeft() > 1) {
+            lookAtTree();
+        }
+        if (callsLeft() > 0) {
+            due("the 512th call, circle()", model.circle() ? 1 : 0, loom.circle() ? 1 : 0);
+        }
     }
 
     private void step() {
