@@ -10,6 +10,7 @@ public final class CountsTest {
         sameRuleTwice();
         emptyOnes();
         laterNumbersFirst();
+        treesWhenRulesChange();
         noTrees();
         tooMany();
         tooManyForLong();
@@ -89,6 +90,30 @@ public final class CountsTest {
             Check.due("steps of " + step + ": trees(0, 2)", 7, x.trees(0, 2));
             Check.due("steps of " + step + ": trees(0, 5)", 2401, x.trees(0, 5));
         }
+    }
+
+    /** Nothing of what was counted before stays, however long it was. */
+    private static void treesWhenRulesChange() {
+        Check.says(10, "How many trees of a length a nonterminal has;");
+        Loom x = Grammars.rowOfEights();
+        x.add(1, 8, 8, 1);
+        x.add(1, 9);
+        for (int round = 0; round < 3; round++) {
+            Check.due("the longest: trees(0, 16)", 1, x.trees(0, 16));
+            Check.due("the longest but one: trees(1, 15)", 1, x.trees(1, 15));
+            x.add(2, 8);
+            Check.due("with a rule more: trees(0, 0)", 1, x.trees(0, 0));
+            Check.due("with a rule more: trees(1, 0)", 0, x.trees(1, 0));
+            Check.due("with a rule more: trees(1, 1)", 1, x.trees(1, 1));
+            Check.due("with a rule more: treesWith(0, 0)", 0, x.treesWith(0, 0));
+            Check.due("with a rule more: treesWith(0, 16)", 1, x.treesWith(0, 16));
+        }
+        x.drop(1);
+        dueTrees(x, 0, 0, 0, 0);
+        Check.due("without the short one: trees(0, 16)", 0, x.trees(0, 16));
+        x.drop(0);
+        dueTrees(x, 0, 0, 0, 0);
+        dueTrees(x, 1, 0, 1, 0, 1, 0, 1);
     }
 
     private static void noTrees() {
