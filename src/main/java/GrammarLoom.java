@@ -162,7 +162,9 @@ public final class GrammarLoom {
     }
 
     private boolean isCounted(int length) {
-        return length >= 0 && length <= MOST_LENGTH && !circle();
+        // Not by circle(), so that no chain of calls is longer than the language allows.
+        study();
+        return length >= 0 && length <= MOST_LENGTH && !leads.isCircle();
     }
 
     /** What follows from the rules is found when it is first asked for after they have changed. */

@@ -2,11 +2,12 @@ import java.io.IOException;
 import java.nio.file.Files;
 import java.nio.file.Path;
 import java.util.ArrayList;
+import java.util.Arrays;
 import java.util.List;
 
-/** Every word of the document's terms and promises stands in the words that some test is for. */
+/** Every word of the document, from its first line to promise 16, is one that some test is for. */
 public final class DocumentTest {
-    private static final Path DOCUMENT = Path.of("..", "shared", "DOC.md");
+    static final Path DOCUMENT = Path.of("..", "shared", "DOC.md");
     private static final int PROMISES = 16;
 
     private final String text;
@@ -36,12 +37,11 @@ public final class DocumentTest {
         Check.end();
     }
 
-    /** The words before promise 1, then those of each promise, without the signatures. */
+    /** The words before promise 1, then those of each promise; the signatures are for FaceTest. */
     private static List<DocumentTest> sections(String document) {
-        String calls = between(document, "An object is used", "## The public face");
-        String terms = between(document, "## Terms\n", "## Promise 1:");
+        String before = between(document, "# GrammarLoom\n", "## Promise 1:");
         List<DocumentTest> sections = new ArrayList<>();
-        sections.add(new DocumentTest("An object is used" + onOneLine(calls + " " + terms)));
+        sections.add(new DocumentTest(onOneLine(before.replaceAll("(?s:```.*?```)|(?m:^#.*$)", ""))));
         for (int promise = 1; promise <= PROMISES; promise++) {
             String next = promise == PROMISES ? "## Not promised" : "## Promise " + (promise + 1) + ":";
             String section = between(document, "## Promise " + promise + ":", next);
@@ -63,8 +63,8 @@ public final class DocumentTest {
 
     private boolean find(String words) {
         int from = text.indexOf(words);
-        for (int i = Math.max(0, from); i < from + words.length(); i++) {
-            tested[i] = true;
+        if (from >= 0) {
+            Arrays.fill(tested, from, from + words.length(), true);
         }
         return from >= 0;
     }

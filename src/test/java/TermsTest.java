@@ -1,6 +1,6 @@
 import java.util.Arrays;
 
-/** The words before promise 1: the calls of an object, the terms, the constants. */
+/** The words before promise 1: what it is, the calls of an object, the terms, the constants. */
 public final class TermsTest {
     public static void main(String[] args) {
         run();
@@ -8,6 +8,7 @@ public final class TermsTest {
     }
 
     static void run() {
+        whatItIs();
         calls512();
         lastCalls();
         nonterminals();
@@ -29,6 +30,25 @@ public final class TermsTest {
         numbersFrom0();
         none();
         tooMany();
+    }
+
+    /** A subject, a verb, 11, and an object; each has an article, 10, adjectives, 9, and a noun, 8. */
+    private static void whatItIs() {
+        Check.says(0, "A generator of sentences from a grammar: how short they can be, also with a rule that "
+                + "is wanted in them, how many trees there are of a length, the tree with a given number among "
+                + "them, and the number of a given tree.");
+        Loom x = new Loom();
+        x.add(0, 1, 11, 1);
+        x.add(1, 10, 2);
+        x.add(2, 8);
+        x.add(2, 9, 2);
+        Check.due("how short sentences can be", 5, x.shortest(0));
+        Check.due("with the rule that is wanted", 6, x.shortestWith(3));
+        Check.due("trees of a length", 2, x.trees(0, 6));
+        Check.due("trees of a length with the rule", 2, x.treesWith(3, 6));
+        Check.dueTree(x, 0, 6, 1, 0, 1, 3, 2, 1, 2);
+        Check.dueYield("the sentence", x, 10, 9, 8, 11, 10, 8);
+        Check.due("the number of the tree", 1, x.numberOf(0, 0, 1, 3, 2, 1, 2));
     }
 
     private static void calls512() {
